@@ -584,7 +584,7 @@ public final class BrassBalls {
     return within(weeks, 1, MOST_LIFE_WEEKS) && within(more, 0, MOST_PENCE);
   }
 
-  /** NEEDS. More at first may do worse than less (it buys the suit out too soon), so each is tried. */
+  /** NEEDS: each more is tried, the least first. */
   public int needs(int person, int kind, int loan, int weeks) {
     int refused = lifeRefused(person, kind, loan, weeks, 0);
     if (refused != 0) {
@@ -950,7 +950,6 @@ public final class BrassBalls {
     final int[] take = new int[MOST_UPTOS];
     final int[] per = new int[MOST_UPTOS];
     final int[] rule = new int[RULES];
-    int told;
     int lines;
 
     Law() {
@@ -959,7 +958,6 @@ public final class BrassBalls {
 
     void clear() {
       uptos = 0;
-      told = 0;
       lines = 0;
       for (int i = 0; i < RULES; i++) {
         rule[i] = RULE_WITHOUT[i];
@@ -968,7 +966,6 @@ public final class BrassBalls {
 
     void copyFrom(Law from) {
       uptos = from.uptos;
-      told = from.told;
       lines = from.lines;
       System.arraycopy(from.upto, 0, upto, 0, MOST_UPTOS);
       System.arraycopy(from.take, 0, take, 0, MOST_UPTOS);
@@ -1029,8 +1026,8 @@ public final class BrassBalls {
       looks = from.looks;
       size = from.size;
       System.arraycopy(from.begin, 0, begin, 0, begin.length);
-      System.arraycopy(from.sign, 0, sign, 0, TAPE_ROOM);
-      System.arraycopy(from.number, 0, number, 0, TAPE_ROOM);
+      System.arraycopy(from.sign, 0, sign, 0, size);
+      System.arraycopy(from.number, 0, number, 0, size);
     }
 
     void add(int newSign, int newNumber) {
@@ -1169,6 +1166,7 @@ public final class BrassBalls {
     final Tape tape = new Tape();
     final Law law = new Law();
     final Looks looks = new Looks();
+    private int rulesTold = 0;
     int fault = 0;
     int faultPlace = NONE;
 
@@ -1181,6 +1179,7 @@ public final class BrassBalls {
     boolean readLaw(int n) {
       begin(n);
       law.clear();
+      rulesTold = 0;
       for (int i = 0; i < n && fault == 0 && tape.sort != Tape.END; i++) {
         if (tape.spells("upto")) {
           readUpto();
@@ -1214,11 +1213,11 @@ public final class BrassBalls {
         refuse(OUT_OF_PLACE);
         return;
       }
-      if ((law.told >> rule & 1) == 1) {
+      if ((rulesTold >> rule & 1) == 1) {
         refuse(TOLD_AGAIN);
         return;
       }
-      law.told |= 1 << rule;
+      rulesTold |= 1 << rule;
       tape.step();
       law.rule[rule] = passNumber(RULE_LOW[rule], RULE_HIGH[rule]);
     }

@@ -116,6 +116,18 @@ public final class PromiseTests {
     due("no blanks", tell(b, 0, "upto9take5per7;least3;"), 2);
     due("interest", b.interest(0, 8, 0, 0), 10);
     due("no blanks", tell(b, 1, "seek if(cloth)and(not(by 3));seek if by1or by1;"), 2);
+    BrassBalls c = busy(PLAIN);
+    c.pledge(0, 0, 5);
+    for (int i = 0; i < 60; i++) {
+      due("anew each time", tell(c, 1, "seek if by 1 or by 1 or by 1 or by 1 or by " + i % 2 + ";"), 1);
+      due("fits", c.fits(0, -1), 1 - i % 2);
+    }
+    StringBuilder many = new StringBuilder("seek if");
+    for (int i = 0; i < 64; i++) {
+      many.append(i < 63 ? "by1or " : "by0;");
+    }
+    due("some sixty FACTS", tell(c, 1, many.toString().replace("ifby", "if by")), 1);
+    due("the last of them", c.fits(0, -1), 1);
   }
 
   /** A text and its FAULT with the place. */
@@ -1436,6 +1448,13 @@ public final class PromiseTests {
     }
     due("60 in all", b.clerk(2), 5);
     due("full", b.clerk(2), 0);
+    BrassBalls c = busy("upto 999 take 1 per 1;");
+    row(c, 0, 1, 0, 0, 999);
+    due("999 pence", c.clerk(0), 1);
+    row(c, 0, 1, 0, 0, 1000);
+    due("1000 pence", c.clerk(0), 0);
+    row(c, 0, 1, 0, -1, 9);
+    due("PERSON -1", c.clerk(0), 0);
   }
 
   private static void image() {
@@ -1504,9 +1523,53 @@ public final class PromiseTests {
     due("not THE TAPE", b.count(7), 20);
     due("not ROWS", b.write(0, 0, 7), 7);
     due("goes on", b.pledge(0, 0, 5), 313);
+    twoLines();
     b.restore(0);
     due("again", b.count(2), 2);
     due("the image stays", told(b).equals(before) ? 1 : 0, 1);
+  }
+
+  /** Two images of what went on in two ways: each must keep all that was made in its own. */
+  private static void twoLines() {
+    BrassBalls b = busy(PLAIN + "year 1;ticket 1;moth 9;");
+    b.image(0);
+    oneWay(b, 1);
+    String one = told(b);
+    b.image(1);
+    b.restore(0);
+    oneWay(b, 2);
+    String two = told(b);
+    b.image(0);
+    b.restore(1);
+    due("the one way", told(b).equals(one) ? 1 : 0, 1);
+    due("OVER of the one way", b.over(2), 80 - 25);
+    b.restore(0);
+    due("the other way", told(b).equals(two) ? 1 : 0, 1);
+    due("OVER of the other way", b.over(2), 160 - 26);
+  }
+
+  private static void oneWay(BrassBalls b, int way) {
+    if (way == 2) {
+      b.weeks(30);
+    }
+    b.duty(way);
+    b.scribe(way, way, 0, way, 0, 9);
+    b.kind(way, 20 + way, 50 * way, 10 * way, way == 1);
+    b.person(2 * way, 3 * way, 4 * way, 9);
+    b.rack(10 * way, way);
+    b.list(2, way);
+    b.suit(2, way - 1, 3 * way);
+    tell(b, 1, way == 1 ? "seek if cloth;" : "seek if not cloth;seek if by 2;");
+    b.pledge(2, way, 10 * way);
+    b.pledge(way, 2, 11 * way);
+    b.pledge(2, 0, 7);
+    b.put(0, 0);
+    b.hold(0);
+    b.weeks(20 + way);
+    b.renew(279);
+    b.fetch(b.held(444, 0) == 1 ? 444 : 148);
+    b.sale(2, 40 * way);
+    b.over(way == 1 ? 9 : 8);
   }
 
   /** All that can be told of a small shop without a change. */

@@ -304,6 +304,8 @@ public final class RandomRuns {
       manyTickets();
     } else if (profile == 8 && oneIn(2)) {
       afterSales();
+    } else if (profile == 9 && oneIn(3)) {
+      imagesAndBack();
     } else if (oneIn(200)) {
       fullTape();
     } else {
@@ -425,6 +427,45 @@ public final class RandomRuns {
     }
     if (oneIn(6)) {
       call("weeks", oneIn(8) ? near(1, 52) : from(1, 6));
+    }
+  }
+
+  /** What comes behind an image comes otherwise the next time, so that an image must keep all there is of it. */
+  private void imagesAndBack() {
+    switch (below(8)) {
+      case 0:
+        call("image", below(2));
+        break;
+      case 1:
+      case 2:
+        call("restore", below(2));
+        break;
+      case 3:
+        aKindMore();
+        aPersonMore();
+        break;
+      case 4:
+        call("rack", from(3, 12), below(20));
+        call("list", aKind(), Math.max(0, p.s.week - below(6)));
+        call("suit", aPerson(), aKind(), aLoan());
+        break;
+      case 5:
+        call("duty", below(4));
+        call("pledge", aKind(), aPerson(), from(1, 20));
+        call("put", p.s.pledges.size() - 1, near(0, p.s.racks.size() - 1));
+        break;
+      case 6:
+        call("gained", aKind(), from(1, 40), near(0, 100), near(1, 52));
+        call("life", aPerson(), 0, from(1, 40), near(1, 104), 0);
+        call("of", aPledge(), near(0, 8));
+        break;
+      default:
+        call("hand", aNumber(), stroke(), stroke(), stroke(), stroke(), stroke());
+        call("foresee", oneIn(2));
+        call("match", anIndex(p.s.listed.size()));
+    }
+    if (oneIn(4)) {
+      afterSales();
     }
   }
 
@@ -651,7 +692,7 @@ public final class RandomRuns {
   }
 
   private boolean run() {
-    int profile = below(9);
+    int profile = below(10);
     if (!oneIn(12)) {
       goodLaw();
     }
