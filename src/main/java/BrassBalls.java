@@ -240,7 +240,6 @@ public final class BrassBalls {
     p.rent = rent;
     p.food = food;
     p.purse = 2 * purse;
-    p.suitKind = NONE;
     p.suitLoan = 0;
     shop.peopleCount++;
     return shop.peopleCount - 1;
@@ -767,7 +766,6 @@ public final class BrassBalls {
     if (!isLoan(loan)) {
       return BAD_NUMBER;
     }
-    shop.people[person].suitKind = kind;
     shop.people[person].suitLoan = loan;
     return 0;
   }
@@ -1389,13 +1387,12 @@ public final class BrassBalls {
     }
   }
 
-  /** A PERSON. */
+  /** A PERSON; suitLoan is 0 without a SUIT (whose KIND no call tells). */
   private static final class Person {
     int pay;
     int rent;
     int food;
     int purse;
-    int suitKind;
     int suitLoan;
 
     void copyFrom(Person from) {
@@ -1403,7 +1400,6 @@ public final class BrassBalls {
       rent = from.rent;
       food = from.food;
       purse = from.purse;
-      suitKind = from.suitKind;
       suitLoan = from.suitLoan;
     }
   }
@@ -1754,7 +1750,7 @@ public final class BrassBalls {
       int bits = 0;
       for (int p = 0; p < peopleCount; p++) {
         int loan = people[p].suitLoan;
-        if (people[p].suitKind != NONE && law.lends(loan) && sinkingWeek(p, loan, weeks, more) != NONE) {
+        if (loan > 0 && law.lends(loan) && sinkingWeek(p, loan, weeks, more) != NONE) {
           bits |= 1 << p;
         }
       }
@@ -1826,8 +1822,8 @@ public final class BrassBalls {
     private final int[][] leastLot = new int[MOST_IN_LOTS + 1][MOST_IN_LOTS + 1];
     private final int[] longest = new int[MOST_PLEDGES];
     private final int[] pledgeOf = new int[MOST_LISTED];
-    private final int[] thingOf = new int[MOST_PLEDGES];
-    private final boolean[] seen = new boolean[MOST_PLEDGES];
+    private final boolean[] matches = new boolean[MOST_LISTED];
+    private final boolean[] taken = new boolean[MOST_PLEDGES];
 
     /** PLEDGES told as bits from one on, with SIZES and STEPS: whether all are HERE on a RACK. */
     boolean gather(Shop shop, int from, int bits) {
@@ -2003,12 +1999,13 @@ public final class BrassBalls {
       }
     }
 
-    /** Where the shortest LOT from there on ends, behind which the other LOTS need no more than most either. */
+    /**
+     * Where the shortest LOT from there on ends, behind which the other LOTS need no more than most. Its own sum is no more either: some LOT from
+     * there on keeps both, and this one is not longer.
+     */
     private int lotEnd(int from, int lots, int most) {
-      int sum = 0;
-      for (int behind = from + 1; behind <= gathered; behind++) {
-        sum += worth[behind - 1];
-        if (sum <= most && leastLot[lots - 1][behind] <= most) {
+      for (int behind = from + 1; behind < gathered; behind++) {
+        if (leastLot[lots - 1][behind] <= most) {
           return behind;
         }
       }
@@ -2019,7 +2016,6 @@ public final class BrassBalls {
     int longestChain(Shop shop, int person) {
       int most = 0;
       for (int p = 0; p < shop.pledgeCount; p++) {
-        longest[p] = 0;
         if (shop.pledges[p].owner == person) {
           longest[p] = 1 + longestAhead(shop, p, person);
           most = Math.max(most, longest[p]);
@@ -2039,40 +2035,58 @@ public final class BrassBalls {
       return most;
     }
 
-    /** MATCHED: how many, or the PLEDGE of the i-th LISTED. */
+    /**
+     * MATCHED: how many, or the PLEDGE of the i-th LISTED. Of a KIND what was stolen later may be fewer PLEDGES, the last ones of those that the
+     * others may be. So a thing that takes the least leaves the others what they may be as well as it, and as many are MATCHED as can be if each
+     * thing is that can be besides those ahead of it.
+     */
     int matching(Shop shop, int i) {
-      for (int thing = 0; thing < MOST_LISTED; thing++) {
-        pledgeOf[thing] = NONE;
-      }
       for (int p = 0; p < MOST_PLEDGES; p++) {
-        thingOf[p] = NONE;
+        taken[p] = false;
       }
       int matched = 0;
       for (int thing = 0; thing < shop.listedCount; thing++) {
-        forgetSeen(thing, 0);
-        if (findPledge(shop, thing, 0)) {
+        pledgeOf[thing] = NONE;
+        matches[thing] = true;
+        matches[thing] = isRoomTo(shop, thing);
+        if (matches[thing]) {
           matched++;
+          takeLeast(shop, thing);
         }
       }
-      if (i == NONE) {
-        return matched;
-      }
-      for (int thing = 0; thing <= i; thing++) {
-        settle(shop, thing);
-      }
-      return pledgeOf[i];
+      return i == NONE ? matched : pledgeOf[i];
     }
 
-    /** Only the PLEDGES of the things ahead of settled count as seen. */
-    private void forgetSeen(int thing, int settled) {
-      for (int p = 0; p < MOST_PLEDGES; p++) {
-        seen[p] = false;
-      }
-      for (int t = 0; t < settled; t++) {
-        if (pledgeOf[t] != NONE) {
-          seen[pledgeOf[t]] = true;
+    /** Whether there are as many PLEDGES as things that match, up to the last: for none of them those stolen then or later are too many. */
+    private boolean isRoomTo(Shop shop, int last) {
+      for (int thing = 0; thing <= last; thing++) {
+        if (matches[thing] && laterThings(shop, thing, last) > candidates(shop, thing)) {
+          return false;
         }
       }
+      return true;
+    }
+
+    private int laterThings(Shop shop, int thing, int last) {
+      int[] first = shop.listed[thing];
+      int things = 0;
+      for (int t = 0; t <= last; t++) {
+        int[] other = shop.listed[t];
+        if (matches[t] && other[OF_KIND] == first[OF_KIND] && other[FROM_WEEK] >= first[FROM_WEEK]) {
+          things++;
+        }
+      }
+      return things;
+    }
+
+    private int candidates(Shop shop, int thing) {
+      int pledges = 0;
+      for (int p = 0; p < shop.pledgeCount; p++) {
+        if (mayBe(shop, thing, p)) {
+          pledges++;
+        }
+      }
+      return pledges;
     }
 
     private static boolean mayBe(Shop shop, int thing, int p) {
@@ -2080,60 +2094,14 @@ public final class BrassBalls {
       return pledge.state == HERE && pledge.kind == shop.listed[thing][OF_KIND] && pledge.made >= shop.listed[thing][FROM_WEEK];
     }
 
-    /** A thing gets a PLEDGE not seen yet; who had it gets another one. No deeper than there are things. */
-    private boolean findPledge(Shop shop, int thing, int depth) {
-      if (depth > MOST_LISTED) {
-        return false;
-      }
+    private void takeLeast(Shop shop, int thing) {
       for (int p = 0; p < shop.pledgeCount; p++) {
-        if (!seen[p] && mayBe(shop, thing, p)) {
-          seen[p] = true;
-          if (thingOf[p] == NONE || findPledge(shop, thingOf[p], depth + 1)) {
-            join(thing, p);
-            return true;
-          }
-        }
-      }
-      return false;
-    }
-
-    private void join(int thing, int p) {
-      thingOf[p] = thing;
-      pledgeOf[thing] = p;
-    }
-
-    /** The thing gets the least PLEDGE by which no fewer are MATCHED; those ahead of it keep theirs. */
-    private void settle(Shop shop, int thing) {
-      for (int p = 0; p < shop.pledgeCount; p++) {
-        if (thingOf[p] == thing) {
-          return;
-        }
-        boolean kept = thingOf[p] != NONE && thingOf[p] < thing;
-        if (!kept && mayBe(shop, thing, p) && takeFrom(shop, thing, p)) {
+        if (!taken[p] && mayBe(shop, thing, p)) {
+          taken[p] = true;
+          pledgeOf[thing] = p;
           return;
         }
       }
-    }
-
-    /** The thing takes a PLEDGE, if who had it finds another one, or the thing had none (then as many are MATCHED as before). */
-    private boolean takeFrom(Shop shop, int thing, int p) {
-      int loser = thingOf[p];
-      int before = pledgeOf[thing];
-      if (before != NONE) {
-        thingOf[before] = NONE;
-      }
-      forgetSeen(thing, thing);
-      seen[p] = true;
-      if (loser != NONE) {
-        if (before == NONE) {
-          pledgeOf[loser] = NONE;
-        } else if (!findPledge(shop, loser, 0)) {
-          thingOf[before] = thing;
-          return false;
-        }
-      }
-      join(thing, p);
-      return true;
     }
   }
 }
