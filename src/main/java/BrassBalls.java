@@ -1805,8 +1805,8 @@ public final class BrassBalls {
     private static final int MOST_CARRIED = 8;
     private static final int SETS = 256;
     private static final long FIGURES = 10000000L;
-    private static final long NO_PLACE = Long.MAX_VALUE;
-    private static final int TOO_MUCH = Integer.MAX_VALUE;
+    private static final long NO_PLACE = 1L << 62;
+    private static final int TOO_MUCH = 1 << 30;
     private static final int[] FIGURE = {1000000, 100000, 10000, 1000, 100, 10, 1};
 
     // What was gathered, one behind the other, and what belongs to sets of it (as bits).

@@ -40,7 +40,7 @@ public final class LanguageTest {
     }
     Matcher m = Pattern.compile("\\b(Math|System|String|Integer|Long|Arrays|StringBuilder|ArrayList|List)\\.(\\w+)").matcher(code);
     while (m.find()) {
-      if (!Set.of("Math.max", "Math.min", "Math.abs", "System.arraycopy", "Long.MAX_VALUE", "Integer.MAX_VALUE").contains(m.group())) {
+      if (!Set.of("Math.max", "Math.min", "Math.abs", "System.arraycopy").contains(m.group())) {
         fail("the library's " + m.group());
       }
     }

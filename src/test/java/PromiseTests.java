@@ -2,63 +2,7 @@
  * The promises one by one, with answers worked out by hand from the document: ordinary inputs, the edges it names, wrong inputs. Each method
  * makes its own objects.
  */
-public final class PromiseTests {
-  private static final int MIN = Integer.MIN_VALUE;
-  private static final int MAX = Integer.MAX_VALUE;
-  /** Loans to 100 pence, a half penny for each 10 pence and half month. */
-  private static final String PLAIN = "upto 100 take 1 per 10;";
-  private static int wrong = 0;
-  private static String promise = "";
-
-  private static void due(String call, long got, long want) {
-    if (got != want) {
-      wrong++;
-      System.out.println(promise + ": " + call + " answered " + got + ", due is " + want);
-    }
-  }
-
-  private static void feed(BrassBalls b, String text) {
-    StringBuilder s = new StringBuilder(text);
-    while (s.length() % 20 != 0) {
-      s.append(' ');
-    }
-    for (int at = 0; at < s.length(); at += 20) {
-      int[] v = new int[5];
-      for (int j = 0; j < 20; j++) {
-        v[j / 4] = v[j / 4] << 8 | s.charAt(at + j);
-      }
-      b.feed(v[0], v[1], v[2], v[3], v[4]);
-    }
-  }
-
-  private static int tell(BrassBalls b, int what, String text) {
-    feed(b, text);
-    return b.text(what, text.length());
-  }
-
-  private static BrassBalls shop(String law) {
-    BrassBalls b = new BrassBalls();
-    tell(b, 0, law);
-    return b;
-  }
-
-  /** With a KIND of cloth (size 3, 10 to 14 pence), another (size 2, 100 pence, half of them glass), two PEOPLE with 100 pence. */
-  private static BrassBalls busy(String law) {
-    BrassBalls b = shop(law);
-    b.kind(3, 10, 14, 0, true);
-    b.kind(2, 100, 100, 50, false);
-    b.person(30, 5, 20, 100);
-    b.person(10, 5, 5, 100);
-    return b;
-  }
-
-  private static void row(BrassBalls b, int row, int sort, long... numbers) {
-    b.row(row, sort, numbers.length);
-    for (int i = 0; i < numbers.length; i++) {
-      b.write(row, i, numbers[i]);
-    }
-  }
-
+public final class PromiseTests extends Helpers {
   private static void aNewObject() {
     BrassBalls b = new BrassBalls();
     for (int what = -1; what < 22; what++) {
@@ -128,14 +72,6 @@ public final class PromiseTests {
     }
     due("some sixty FACTS", tell(c, 1, many.toString().replace("ifby", "if by")), 1);
     due("the last of them", c.fits(0, -1), 1);
-  }
-
-  /** A text and its FAULT with the place. */
-  private static void fault(int what, String text, int fault, int place) {
-    BrassBalls b = new BrassBalls();
-    due(text, tell(b, what, text), fault == 0 ? b.count(5 + what) : -10 - fault);
-    due("FAULT of " + text, b.fault(0), fault);
-    due("place in " + text, b.fault(1), place);
   }
 
   private static void fault() {
@@ -1515,84 +1451,16 @@ public final class PromiseTests {
     b.hold(0);
     tell(b, 0, "year 0;");
     feed(b, "year 9;");
-    row(b, 0, 0, 1);
+    row(b, 1, 0, 1);
     due("restore", b.restore(0), 0);
     due("all as it was", told(b).equals(before) ? 1 : 0, 1);
     due("not the FAULT", b.fault(0), 3);
     due("not its place", b.fault(1), 5);
     due("not THE TAPE", b.count(7), 20);
-    due("not ROWS", b.write(0, 0, 7), 7);
+    due("not ROWS", b.write(1, 0, 7), 7);
     due("goes on", b.pledge(0, 0, 5), 313);
-    twoLines();
     b.restore(0);
     due("again", b.count(2), 2);
-    due("the image stays", told(b).equals(before) ? 1 : 0, 1);
-  }
-
-  /** Two images of what went on in two ways: each must keep all that was made in its own. */
-  private static void twoLines() {
-    BrassBalls b = busy(PLAIN + "year 1;ticket 1;moth 9;");
-    b.image(0);
-    oneWay(b, 1);
-    String one = told(b);
-    b.image(1);
-    b.restore(0);
-    oneWay(b, 2);
-    String two = told(b);
-    b.image(0);
-    b.restore(1);
-    due("the one way", told(b).equals(one) ? 1 : 0, 1);
-    due("OVER of the one way", b.over(2), 80 - 25);
-    b.restore(0);
-    due("the other way", told(b).equals(two) ? 1 : 0, 1);
-    due("OVER of the other way", b.over(2), 160 - 26);
-  }
-
-  private static void oneWay(BrassBalls b, int way) {
-    if (way == 2) {
-      b.weeks(30);
-    }
-    b.duty(way);
-    b.scribe(way, way, 0, way, 0, 9);
-    b.kind(way, 20 + way, 50 * way, 10 * way, way == 1);
-    b.person(2 * way, 3 * way, 4 * way, 9);
-    b.rack(10 * way, way);
-    b.list(2, way);
-    b.suit(2, way - 1, 3 * way);
-    tell(b, 1, way == 1 ? "seek if cloth;" : "seek if not cloth;seek if by 2;");
-    b.pledge(2, way, 10 * way);
-    b.pledge(way, 2, 11 * way);
-    b.pledge(2, 0, 7);
-    b.put(0, 0);
-    b.hold(0);
-    b.weeks(20 + way);
-    b.renew(279);
-    b.fetch(b.held(444, 0) == 1 ? 444 : 148);
-    b.sale(2, 40 * way);
-    b.over(way == 1 ? 9 : 8);
-  }
-
-  /** All that can be told of a small shop without a change. */
-  private static String told(BrassBalls b) {
-    StringBuilder s = new StringBuilder();
-    for (int i = 0; i < 40; i++) {
-      s.append(i == 7 ? 0 : b.count(i)).append(' ');
-    }
-    for (int p = 0; p < 4; p++) {
-      for (int what = 0; what < 9; what++) {
-        s.append(b.of(p, what)).append(' ');
-      }
-      s.append(b.purse(p)).append(' ').append(b.runs(p, 1)).append(' ').append(b.chain(p)).append(' ').append(b.renewals(p, 1)).append(' ');
-      s.append(b.fits(0, p)).append(' ').append(b.fits(1, p)).append(' ').append(b.match(p)).append(' ').append(b.rush(p, 1)).append(' ');
-      s.append(b.book(0, p)).append(' ').append(b.book(p, 4)).append(' ').append(b.interest(0, 20 + p, 0, p)).append(' ');
-      s.append(b.interest(1, 20 + p, 0, p)).append(' ').append(b.gained(p, 10, 10, 1)).append(' ').append(b.life(p, 0, 5, 9, 0)).append(' ');
-    }
-    for (int number : new int[] {148, 279, 313, 444}) {
-      s.append(b.ticket(number)).append(' ').append(b.held(number, 1)).append(' ').append(b.held(number, 2)).append(' ');
-      s.append(b.hand(number, 1, 1, 1, 1, 1)).append(' ');
-    }
-    s.append(b.worst(1, 1)).append(' ').append(b.street(104, 0)).append(' ').append(b.shilling(104)).append(' ').append(b.passed(-1));
-    return s.toString();
   }
 
   private static void count() {
@@ -1631,10 +1499,10 @@ public final class PromiseTests {
         PromiseTests::shilling, PromiseTests::trips, PromiseTests::renewals, PromiseTests::foresee, PromiseTests::list, PromiseTests::match,
         PromiseTests::row, PromiseTests::write, PromiseTests::clerk, PromiseTests::image, PromiseTests::restore, PromiseTests::count};
     for (int i = 0; i < tests.length; i++) {
-      promise = "promise " + (i + 1);
+      at = "promise " + (i + 1);
       tests[i].run();
     }
-    promise = "the constant";
+    at = "the constant";
     due("NONE", BrassBalls.NONE, -1);
     System.out.println("PromiseTests: " + (wrong == 0 ? tests.length + " promises are kept" : wrong + " answers are not as due"));
     if (wrong != 0) {
