@@ -421,6 +421,22 @@ public final class EdgeTests extends Helpers {
     }
   }
 
+  /** Each letter in turn is another one: its word can't stand there. */
+  private static void otherLetters(int what, String text) {
+    fault(what, text, 0, -1);
+    for (int i = 0; i < text.length(); i++) {
+      char c = text.charAt(i);
+      if (Character.isLetter(c)) {
+        int place = i;
+        while (place > 0 && Character.isLetter(text.charAt(place - 1))) {
+          place--;
+        }
+        fault(what, text.substring(0, i) + (char) (c + 1) + text.substring(i + 1), 2, place);
+        fault(what, text.substring(0, i) + (char) (c - 32) + text.substring(i + 1), i == place ? 1 : 2, place);
+      }
+    }
+  }
+
   private static void tokens() {
     edge("between them blanks (10, 32): words (small letters), N (1 to 3 digits), the signs ; ( )", () -> {
       byteMore(0, "year", "5;", new int[] {0, 2, 0, 2, 2, 2}, new int[] {-1, 0, -1, 4, 4, 4});
@@ -443,6 +459,10 @@ public final class EdgeTests extends Helpers {
       fault(1, "seek ifcloth;", 2, 5);
       fault(1, "seek if notcloth;", 2, 8);
       fault(1, "seek if not cloth or(by 1)and(cloth);", 0, -1);
+    });
+    edge("words (small letters)", () -> {
+      otherLetters(0, "upto 1 take 1 per 1;least 1;ticket 1;sworn 1;year 1;moth 1;hold 1;");
+      otherLetters(1, "seek if not cloth and kind 1 or size 1 and above 1 and since 1 and by 1;");
     });
     edge("1 no TOKEN begins so (4 digits and more: at their first)", () -> {
       fault(0, "year 1;least 0001;", 1, 13);
@@ -1087,6 +1107,28 @@ public final class EdgeTests extends Helpers {
       due("more numbers than PLEDGES", b.best(0, 7, -1), 0);
       due("of like ones the lesser RACK", b.best(0, 7, 6), 0);
     });
+    edge("-5: there are not n such PLEDGES", () -> {
+      BrassBalls b = busy(PLAIN);
+      due("no PLEDGES", b.best(0, 1, -1), -5);
+      b.image(0);
+      b.rack(99, 1);
+      b.rack(99, 1);
+      for (int i = 0; i < 60; i++) {
+        b.pledge(1, 0, 5);
+      }
+      b.row(0, 0, 7);
+      due("60 of 60", b.best(0, 7, -1), 0);
+      for (int i = 0; i < 58; i++) {
+        b.put(i, i % 2);
+      }
+      due("2 of 60", b.best(0, 2, -1), 0);
+      due("2 of 60", b.best(0, 3, -1), -5);
+      b.restore(0);
+      due("none any more", b.best(0, 1, -1), -5);
+      b.pledge(1, 0, 5);
+      due("one", b.best(0, 2, -1), -5);
+      due("one, no RACK", b.best(0, 1, -1), -1);
+    });
     edge("of like ones the first, PLEDGE by PLEDGE, by the lesser RACK; all must find room", () -> {
       BrassBalls b = busy(PLAIN);
       b.rack(3, 4);
@@ -1114,11 +1156,17 @@ public final class EdgeTests extends Helpers {
       for (int i = 0; i < 7; i++) {
         b.pledge(1, 0, 5);
       }
-      row(b, 0, 0, 3, 7, 1, 6, 2, 5, 4);
-      due("the heaviest to the fewest STEPS", b.best(0, 7, -1), 7 * 5 + 6 * 10 + 5 * 20 + 4 * 30 + 3 * 40 + 2 * 50 + 60);
-      int[] due = {1, 9, 7, 3, 0, 6, 4};
-      for (int i = 0; i < 7; i++) {
-        due("PLEDGE " + i, b.best(0, 7, i), due[i]);
+      int[][] weights = {{3, 7, 1, 6, 2, 5, 4}, {1, 2, 3, 4, 5, 6, 7}, {7, 6, 5, 4, 3, 2, 1}};
+      int[][] due = {{1, 9, 7, 3, 0, 6, 4}, {7, 0, 1, 4, 6, 3, 9}, {9, 3, 6, 4, 1, 0, 7}};
+      for (int w = 0; w < 3; w++) {
+        b.row(0, 0, 7);
+        for (int i = 0; i < 7; i++) {
+          b.write(0, i, weights[w][i]);
+        }
+        due("the heaviest to the fewest STEPS", b.best(0, 7, -1), 7 * 5 + 6 * 10 + 5 * 20 + 4 * 30 + 3 * 40 + 2 * 50 + 60);
+        for (int i = 0; i < 7; i++) {
+          due("PLEDGE " + i, b.best(0, 7, i), due[w][i]);
+        }
       }
     });
     edge("BEST of so many PLEDGES", () -> {
@@ -1910,11 +1958,146 @@ public final class EdgeTests extends Helpers {
     });
   }
 
+  private static void nones() {
+    edge("So many WEEKS (1 to 52) go by: WEEK then.", () -> {
+      BrassBalls b = new BrassBalls();
+      for (int n : new int[] {0, 53, -1, -52, MIN, MAX}) {
+        due("weeks " + n, b.weeks(n), -3);
+      }
+      due("1", b.weeks(1), 1);
+      due("52", b.weeks(52), 53);
+    });
+    edge("(What is below 0 may look like these.)", () -> {
+      BrassBalls b = shop("upto 999 take 0 per 1;");
+      b.kind(1, 1, 999, 0, false);
+      due("2 hundredths of 1 of 999", b.gained(0, 2, 99, 1), -2);
+      due("a KIND that there is not", b.gained(1, 2, 99, 1), -2);
+      b.kind(1, 1, 666, 0, false);
+      due("2 hundredths of 1 of 666", b.gained(1, 2, 99, 1), -3);
+      due("LEND is not told by it", b.lend(1, 99, 1), 1);
+    });
+    edge("NONE: no room for all, not so many.", () -> {
+      BrassBalls b = busy(PLAIN);
+      b.rack(3, 4);
+      b.pledge(0, 0, 5);
+      b.pledge(1, 0, 5);
+      row(b, 0, 0, 5, 5);
+      due("room for one", b.best(0, 1, -1), 20);
+      due("its RACK", b.best(0, 1, 0), 0);
+      due("there is no second", b.best(0, 1, 1), -1);
+      due("none ahead of the first", b.best(0, 1, -2), -1);
+      due("no room for both", b.best(0, 2, -1), -1);
+      due("no room for both", b.best(0, 2, 0), -1);
+      due("no room for both", b.best(0, 2, 1), -1);
+    });
+    edge("LIFE: the WEEK in which it SINKS (0: the first); NONE: it doesn't.", () -> {
+      BrassBalls b = busy(PLAIN);
+      b.person(0, 5, 0, 12);
+      int[][] due = {{1, -1}, {2, -1}, {3, -1}, {4, 3}, {104, 3}};
+      // 24, 14, 4, -6 and 10 for the suit: 4, -6
+      for (int[] d : due) {
+        due(d[0] + " WEEKS", b.life(2, 0, 5, d[0], 0), d[1]);
+      }
+      due("0: the first", b.life(2, 0, 1, 1, 0), -1);
+      b.person(0, 5, 0, 0);
+      due("0: the first", b.life(3, 0, 1, 1, 0), 0);
+      due("not with 10 half pence", b.life(3, 0, 5, 1, 0), -1);
+    });
+    edge("(i NONE), the i-th; NONE: not so many.", () -> {
+      BrassBalls b = busy(PLAIN + "year 1;");
+      tell(b, 1, "seek if cloth;");
+      due("none PASSED", b.passed(-1), 0);
+      due("none PASSED", b.passed(0), -1);
+      due("none FIT", b.fits(0, -1), 0);
+      due("none FIT", b.fits(0, 0), -1);
+      b.pledge(1, 0, 5);
+      b.pledge(0, 0, 5);
+      b.pledge(0, 0, 5);
+      b.weeks(1);
+      b.renew(148);
+      int[] due = {2, 1, 2, -1};
+      for (int i = -1; i < 3; i++) {
+        due("PASSED " + i, b.passed(i), due[1 + i]);
+        due("FIT " + i, b.fits(0, i), due[1 + i]);
+      }
+    });
+    edge("LOTS: the greatest sum (i NONE), how many PLEDGES are in the i-th LOT. NONE: not so many LOTS.", () -> {
+      BrassBalls b = busy(PLAIN + "year 1;");
+      b.pledge(0, 0, 5);
+      b.pledge(1, 0, 5);
+      b.weeks(1);
+      int[][] due = {{110, 2, -1, -1}, {100, 1, 1, -1}};
+      for (int n = 1; n <= 2; n++) {
+        for (int i = -1; i < 3; i++) {
+          due(n + " LOTS, " + i, b.lots(n, i), due[n - 1][1 + i]);
+        }
+        due(n + " LOTS, below", b.lots(n, -2), -1);
+      }
+    });
+    edge("NONE: a SIZE is above ARMS. -3: bits, ARMS; -5 as rush().", () -> {
+      BrassBalls b = busy(PLAIN);
+      b.rack(9, 1);
+      b.pledge(0, 0, 5);
+      b.pledge(1, 0, 5);
+      b.put(0, 0);
+      due("3 is above 2", b.trips(0, 1, 2), -1);
+      due("3 is not above 3", b.trips(0, 1, 3), 2);
+      due("it is not told", b.trips(0, 0, 2), 0);
+      due("on no RACK", b.trips(0, 3, 2), -5);
+      b.put(1, 0);
+      due("one of two is above", b.trips(0, 3, 2), -1);
+      due("the other is not", b.trips(0, 2, 2), 2);
+      b.fetch(148);
+      due("not HERE", b.trips(0, 3, 2), -5);
+      due("none such", b.trips(0, 6, 2), -5);
+      due("bits", b.trips(0, 256, 2), -3);
+      due("ARMS", b.trips(0, 2, 100), -3);
+    });
+    edge("NONE: it has none, there is none such.", () -> {
+      BrassBalls b = pledged(PLAIN);
+      due("none LISTED", b.match(-1), 0);
+      due("none LISTED", b.match(0), -1);
+      b.list(1, 0);
+      b.list(0, 0);
+      due("it has none", b.match(0), -1);
+      due("it has one", b.match(1), 0);
+      due("there is none such", b.match(2), -1);
+      due("there is none such", b.match(-2), -1);
+      due("how many", b.match(-1), 1);
+    });
+    edge("NEEDS; NONE: more than 999. Refused as life() is.", () -> {
+      BrassBalls b = busy(PLAIN);
+      b.person(0, 999, 2, 0);
+      due("1000 would do", b.needs(2, 0, 1, 1), -1);
+      due("999 with a better suit", b.needs(2, 0, 2, 1), 999);
+      int[][] refused = {{-1, 0, 0, 0}, {3, 0, 1, 1}, {2, -1, 1, 1}, {2, 2, 1, 1}, {2, 0, 0, 1}, {2, 0, 1000, 1}, {2, 0, 1, 0}, {2, 0, 1, 105}, {2, 0, 101, 1}};
+      int[] codes = {-2, -2, -2, -2, -3, -3, -3, -3, -5};
+      for (int i = 0; i < refused.length; i++) {
+        int[] r = refused[i];
+        due("needs", b.needs(r[0], r[1], r[2], r[3]), codes[i]);
+        due("life", b.life(r[0], r[1], r[2], r[3], 0), codes[i]);
+      }
+    });
+    edge("prices at SALES up to DUE", () -> {
+      int[] price = {0, 5, 11, 12, 9999};
+      int[] back = {0, 10, 22, 22, 22};
+      for (int i = 0; i < price.length; i++) {
+        BrassBalls b = busy(PLAIN + "year 2;");
+        b.pledge(0, 0, 10);
+        b.weeks(2);
+        b.sale(0, price[i]);
+        due("at " + price[i], b.worst(3, 1), 20 - back[i]);
+        due("the WEEK of the SALE is not worse", b.worst(1, 1), 20);
+        due("nor are those to now", b.worst(2, 1), 20);
+      }
+    });
+  }
+
   public static void main(String[] args) throws Exception {
     Runnable[] all = {EdgeTests::callsAndWeeks, EdgeTests::kinds, EdgeTests::people, EdgeTests::lawBounds, EdgeTests::looksBounds, EdgeTests::tokens,
         EdgeTests::faults, EdgeTests::interest, EdgeTests::pledges, EdgeTests::numbers, EdgeTests::purses, EdgeTests::holding, EdgeTests::sales,
         EdgeTests::lending, EdgeTests::racks, EdgeTests::lives, EdgeTests::looks, EdgeTests::books, EdgeTests::scribes, EdgeTests::suits, EdgeTests::lists,
-        EdgeTests::rows, EdgeTests::images, EdgeTests::tape, EdgeTests::counts};
+        EdgeTests::rows, EdgeTests::images, EdgeTests::tape, EdgeTests::counts, EdgeTests::nones};
     for (Runnable test : all) {
       test.run();
     }
